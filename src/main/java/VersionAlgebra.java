@@ -178,8 +178,12 @@ public final class VersionAlgebra {
         if (operation != JOINED && operation != COMMON && operation != WITHOUT) {
             throw new IllegalArgumentException("there is no such operation");
         }
-        Claim claim = new Claim(rangeOf(slot), rangeOf(one), rangeOf(other), operation);
-        return claim.isTrueRoundAllEnds() && claim.isTrueForPublished(now);
+        Range result = rangeOf(slot);
+        Range left = rangeOf(one);
+        Range right = rangeOf(other);
+        Claim claim = new Claim(result, left, right, operation);
+        return claim.isTrueRoundEndsOf(result) && claim.isTrueRoundEndsOf(left) && claim.isTrueRoundEndsOf(right)
+                && claim.isTrueForPublished(now);
     }
 
     public int limit(int version, boolean isCaret) throws IllegalArgumentException {
@@ -513,7 +517,7 @@ public final class VersionAlgebra {
         /** The first span that is not wholly ahead of the version, or the number of spans. */
         private int spanFrom(int version) {
             int span = 0;
-            while (span < spanCount() && lastOf(span) < version) {
+            while (2 * span + 1 < ends.length && ends[2 * span + 1] < version) {
                 span++;
             }
             return span;
@@ -568,10 +572,6 @@ public final class VersionAlgebra {
             this.operation = operation;
         }
 
-        boolean isTrueRoundAllEnds() {
-            return isTrueRoundEndsOf(result) && isTrueRoundEndsOf(one) && isTrueRoundEndsOf(other);
-        }
-
         boolean isTrueForPublished(State state) {
             for (int place = 0; place < state.publishedCount(); place++) {
                 if (!isTrueFor(state.publishedAt(place))) {
@@ -581,7 +581,7 @@ public final class VersionAlgebra {
             return true;
         }
 
-        private boolean isTrueRoundEndsOf(Range range) {
+        boolean isTrueRoundEndsOf(Range range) {
             for (int span = 0; span < range.spanCount(); span++) {
                 if (!isTrueRound(range.firstOf(span)) || !isTrueRound(range.lastOf(span))) {
                     return false;

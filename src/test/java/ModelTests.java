@@ -3,7 +3,7 @@ import java.util.concurrent.Callable;
 
 /** Random runs of calls, each answer of which is held against that of the model. */
 public final class ModelTests {
-    private static final int RUNS = 3000;
+    private static final int RUNS = 6000;
     private static final int LAST = 99999999;
 
     private static final Check check = new Check();
@@ -29,7 +29,12 @@ public final class ModelTests {
     }
 
     private void go() {
-        while (calls < 500) {
+        for (int slot = random.nextInt(3); slot < slots; slot += 1 + random.nextInt(2)) {
+            int filled = slot;
+            int first = Texts.version(random) % (random.nextBoolean() ? 60 : LAST);
+            same("put(" + filled + ", " + first + ", ..)", () -> x.put(filled, first, first), () -> model.put(filled, first, first));
+        }
+        while (calls < 450) {
             step();
         }
     }
@@ -40,16 +45,16 @@ public final class ModelTests {
     }
 
     private void step() {
-        int kind = random.nextInt(20);
-        if (kind < 4) {
+        int kind = random.nextInt(40);
+        if (kind < 3) {
             read();
-        } else if (kind < 8) {
+        } else if (kind < 6) {
             evaluate();
-        } else if (kind < 11) {
+        } else if (kind < 10) {
             changeSlot();
-        } else if (kind < 13) {
-            changePublished();
         } else if (kind < 14) {
+            changePublished();
+        } else if (kind < 15) {
             goBack();
         } else {
             ask(random.nextInt(17));
@@ -133,11 +138,12 @@ public final class ModelTests {
         int other = slot();
         int first = version();
         int last = random.nextInt(3) == 0 ? version() : first + random.nextInt(3) - random.nextInt(2);
-        switch (random.nextInt(5)) {
+        switch (random.nextInt(10)) {
             case 0:
                 same("clear(" + slot + ")", () -> x.clear(slot), () -> model.clear(slot));
                 break;
             case 1:
+            case 2:
                 same("copy(" + slot + ", " + other + ")", () -> x.copy(slot, other), () -> model.copy(slot, other));
                 break;
             default:
@@ -177,7 +183,7 @@ public final class ModelTests {
                 return 0;
             });
         } else {
-            for (int times = random.nextInt(10); times >= 0; times--) {
+            for (int times = random.nextInt(4) == 0 ? 9 : random.nextInt(3); times >= 0; times--) {
                 same("undo()", () -> x.undo(), () -> model.undo());
             }
         }

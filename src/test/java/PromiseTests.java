@@ -598,6 +598,11 @@ public final class PromiseTests {
         x.put(9, 100, 201);
         due("15: one behind is too much", x.agrees(9, 7, 7, 1), false);
         due("15: the same one agrees", x.agrees(7, 7, 7, 1), true);
+        x.publish(150);
+        x.publish(250);
+        due("15: published ones that agree", x.agrees(7, 7, 7, 1), true);
+        x.put(9, 100, 400);
+        due("15: a published one that does not belong", x.agrees(9, 7, 8, 0), false);
         due("15: no operation 3", Check.ask(() -> x.agrees(10, 0, 1, 3)), Check.ARGUMENT);
         due("15: no operation -1", Check.ask(() -> x.agrees(0, 0, 1, -1)), Check.ARGUMENT);
         due("15: an empty result", Check.ask(() -> x.agrees(10, 0, 1, 0)), Check.NO_ELEMENT);
@@ -862,6 +867,10 @@ public final class PromiseTests {
         x.withdraw(1000006);
         due("24: none strictly", Check.ask(() -> x.best(0, true)), Check.NO_ELEMENT);
         due("24: but not strictly", x.best(0, false), 1999998);
+        VersionAlgebra y = with("1.x");
+        y.publish(1000099);
+        y.publish(2000099);
+        due("24: the least one published", y.best(0, true), 1000099);
         due("24: an empty slot", Check.ask(() -> x.best(5, true)), Check.NO_ELEMENT);
         due("24: no slot -1", Check.ask(() -> x.best(-1, true)), Check.INDEX);
         due("24: no slot 12", Check.ask(() -> x.best(12, true)), Check.INDEX);
