@@ -1,6 +1,6 @@
 /** For each promise of the document its ordinary inputs, the edges that it names, and wrong inputs. */
 public final class PromiseTests {
-    private static final int LAST = 99999999;
+    private static final int LAST = Make.LAST;
     private static final Check check = new Check();
 
     private PromiseTests() {
@@ -58,42 +58,6 @@ public final class PromiseTests {
         check.finish();
     }
 
-    private static VersionAlgebra with(String... texts) {
-        VersionAlgebra x = new VersionAlgebra();
-        for (int slot = 0; slot < texts.length; slot++) {
-            Check.type(x, texts[slot]).read(slot);
-        }
-        return x;
-    }
-
-    /** Puts a range of so many spans of one version into a slot, each with one version between them. */
-    private static void putSpans(VersionAlgebra x, int slot, int first, int count) {
-        x.put(slot, first, first);
-        for (int span = 1; span < count; span++) {
-            x.put(11, first + 2 * span, first + 2 * span);
-            Check.type(x, slot + "+11").evaluate(slot);
-        }
-        x.clear(11);
-    }
-
-    private static String rangeOf(String text) {
-        VersionAlgebra x = new VersionAlgebra();
-        Check.read(x, 0, text);
-        return String.valueOf(Check.ends(x, 0));
-    }
-
-    private static Object faultOf(String text) {
-        VersionAlgebra x = new VersionAlgebra();
-        Object answer = Check.read(x, 0, text);
-        return Check.ARGUMENT.equals(answer) ? (Object) x.faultPosition() : answer;
-    }
-
-    private static Object faultOfExpression(String text) {
-        VersionAlgebra x = new VersionAlgebra();
-        Object answer = Check.evaluate(x, 0, text);
-        return Check.ARGUMENT.equals(answer) ? (Object) x.faultPosition() : answer;
-    }
-
     private static void newObject() {
         VersionAlgebra x = new VersionAlgebra();
         for (int slot = 0; slot < 12; slot++) {
@@ -126,26 +90,26 @@ public final class PromiseTests {
         String full = "1.x|3.x|5.x|7.x|9.x|0.1.x|0.3.x|0.5.x|0.7.x|0.9.x|0.0.3|~0.1.";
         due("2: 60 characters stand", full.length() > 60, true);
         due("2: a text of 60 characters", Check.read(x, 0, "1.x|3.x|5.x|7.x|9.x|0.1.x|0.3.x|0.5.x|0.7.x|0.9.x|0.0.3-12 *"), 11);
-        due("2: a high character is no low one", faultOf("" + (char) ('1' + 256) + ".x"), 0);
-        due("2: another high character", faultOf("1" + (char) ('.' + 65280) + "x"), 1);
+        due("2: a high character is no low one", Make.faultOf("" + (char) ('1' + 256) + ".x"), 0);
+        due("2: another high character", Make.faultOf("1" + (char) ('.' + 65280) + "x"), 1);
     }
 
     private static void readRows() {
-        due("3: one row", rangeOf(">=1.2.3 <2.0.0"), "1020399..2000098");
-        due("3: two rows", rangeOf(">=1.2.3 <2.0.0|^0.2.3"), "20399..29999 1020399..2000098");
-        due("3: rows that overlap", rangeOf("1.x|>=1.5.0 <=3.0.0"), "1000000..3000099");
-        due("3: rows that touch", rangeOf("2.x|1.x"), "1000000..2999999");
-        due("3: rows one version apart", rangeOf("<1.0.0-5|>1.0.0-5"), "0..1000004 1000006..99999999");
-        due("3: a row within another", rangeOf("1.x|1.2.x"), "1000000..1999999");
-        due("3: the same row twice", rangeOf("1.2.3|1.2.3"), "1020399..1020399");
-        due("3: rows in any order", rangeOf("3.x|1.x|5.x|0.1.x"),
+        due("3: one row", Make.rangeOf(">=1.2.3 <2.0.0"), "1020399..2000098");
+        due("3: two rows", Make.rangeOf(">=1.2.3 <2.0.0|^0.2.3"), "20399..29999 1020399..2000098");
+        due("3: rows that overlap", Make.rangeOf("1.x|>=1.5.0 <=3.0.0"), "1000000..3000099");
+        due("3: rows that touch", Make.rangeOf("2.x|1.x"), "1000000..2999999");
+        due("3: rows one version apart", Make.rangeOf("<1.0.0-5|>1.0.0-5"), "0..1000004 1000006..99999999");
+        due("3: a row within another", Make.rangeOf("1.x|1.2.x"), "1000000..1999999");
+        due("3: the same row twice", Make.rangeOf("1.2.3|1.2.3"), "1020399..1020399");
+        due("3: rows in any order", Make.rangeOf("3.x|1.x|5.x|0.1.x"),
                 "10000..19999 1000000..1999999 3000000..3999999 5000000..5999999");
-        due("3: parts without common versions", rangeOf("1.x 2.x"), "");
-        due("3: an empty row beside another one", rangeOf("1.x 2.x|3.x"), "3000000..3999999");
-        due("3: an empty row stays empty", rangeOf("<0.0.0-0 * >=0.0.0-0|1.x >2.0.0 1.x"), "");
-        due("3: three parts", rangeOf(">1.0.0 <=1.9.0 1.2.x"), "1020000..1029999");
-        due("3: all rows and all parts", rangeOf("*|1.x"), "0..99999999");
-        due("3: a part beside all", rangeOf("* 1.x *"), "1000000..1999999");
+        due("3: parts without common versions", Make.rangeOf("1.x 2.x"), "");
+        due("3: an empty row beside another one", Make.rangeOf("1.x 2.x|3.x"), "3000000..3999999");
+        due("3: an empty row stays empty", Make.rangeOf("<0.0.0-0 * >=0.0.0-0|1.x >2.0.0 1.x"), "");
+        due("3: three parts", Make.rangeOf(">1.0.0 <=1.9.0 1.2.x"), "1020000..1029999");
+        due("3: all rows and all parts", Make.rangeOf("*|1.x"), "0..99999999");
+        due("3: a part beside all", Make.rangeOf("* 1.x *"), "1000000..1999999");
         VersionAlgebra x = new VersionAlgebra();
         due("3: the answer is the number of spans", Check.read(x, 11, "1.x|3.x|5.x"), 3);
         due("3: a range without versions has none", Check.read(x, 11, "<0.0.0-0"), 0);
@@ -163,54 +127,54 @@ public final class PromiseTests {
     }
 
     private static void readComparisons() {
-        due("3: less", rangeOf("<1.2.3"), "0..1020398");
-        due("3: at most", rangeOf("<=1.2.3"), "0..1020399");
-        due("3: greater", rangeOf(">1.2.3"), "1020400..99999999");
-        due("3: at least", rangeOf(">=1.2.3"), "1020399..99999999");
-        due("3: the same", rangeOf("=1.2.3"), "1020399..1020399");
-        due("3: a version alone", rangeOf("1.2.3"), "1020399..1020399");
-        due("3: a prerelease alone", rangeOf("1.2.3-0"), "1020300..1020300");
-        due("3: less than a prerelease", rangeOf("<1.2.3-45"), "0..1020344");
-        due("3: at most a prerelease", rangeOf("<=1.2.3-98"), "0..1020398");
-        due("3: greater than a prerelease", rangeOf(">1.2.3-98"), "1020399..99999999");
-        due("3: at least a prerelease", rangeOf(">=0.0.0-0"), "0..99999999");
-        due("3: less than the least one", rangeOf("<0.0.0-0"), "");
-        due("3: at most the least one", rangeOf("<=0.0.0-0"), "0..0");
-        due("3: greater than the greatest one", rangeOf(">99.99.99"), "");
-        due("3: at least the greatest one", rangeOf(">=99.99.99"), "99999999..99999999");
-        due("3: at most the greatest one", rangeOf("<=99.99.99"), "0..99999999");
-        due("3: numbers of two digits", rangeOf("10.20.30-40"), "10203040..10203040");
+        due("3: less", Make.rangeOf("<1.2.3"), "0..1020398");
+        due("3: at most", Make.rangeOf("<=1.2.3"), "0..1020399");
+        due("3: greater", Make.rangeOf(">1.2.3"), "1020400..99999999");
+        due("3: at least", Make.rangeOf(">=1.2.3"), "1020399..99999999");
+        due("3: the same", Make.rangeOf("=1.2.3"), "1020399..1020399");
+        due("3: a version alone", Make.rangeOf("1.2.3"), "1020399..1020399");
+        due("3: a prerelease alone", Make.rangeOf("1.2.3-0"), "1020300..1020300");
+        due("3: less than a prerelease", Make.rangeOf("<1.2.3-45"), "0..1020344");
+        due("3: at most a prerelease", Make.rangeOf("<=1.2.3-98"), "0..1020398");
+        due("3: greater than a prerelease", Make.rangeOf(">1.2.3-98"), "1020399..99999999");
+        due("3: at least a prerelease", Make.rangeOf(">=0.0.0-0"), "0..99999999");
+        due("3: less than the least one", Make.rangeOf("<0.0.0-0"), "");
+        due("3: at most the least one", Make.rangeOf("<=0.0.0-0"), "0..0");
+        due("3: greater than the greatest one", Make.rangeOf(">99.99.99"), "");
+        due("3: at least the greatest one", Make.rangeOf(">=99.99.99"), "99999999..99999999");
+        due("3: at most the greatest one", Make.rangeOf("<=99.99.99"), "0..99999999");
+        due("3: numbers of two digits", Make.rangeOf("10.20.30-40"), "10203040..10203040");
     }
 
     private static void readCaretsAndTildes() {
-        due("3: a caret with a major number", rangeOf("^1.2.3"), "1020399..1999999");
-        due("3: a caret with a minor number", rangeOf("^0.2.3"), "20399..29999");
-        due("3: a caret with a patch number", rangeOf("^0.0.3"), "399..399");
-        due("3: a caret of zeros", rangeOf("^0.0.0"), "99..99");
-        due("3: a caret of a prerelease of zeros", rangeOf("^0.0.0-7"), "7..99");
-        due("3: a caret of a prerelease", rangeOf("^1.2.3-4"), "1020304..1999999");
-        due("3: a caret of a patch's prerelease", rangeOf("^0.0.3-4"), "304..399");
-        due("3: a caret with a patch number 99", rangeOf("^0.0.99"), "9999..9999");
-        due("3: its prerelease", rangeOf("^0.0.99-0"), "9900..9999");
-        due("3: a caret with a minor number 99", rangeOf("^0.99.5"), "990599..999999");
-        due("3: a caret with a major number 99", rangeOf("^99.0.0-0"), "99000000..99999999");
-        due("3: a caret of the greatest one", rangeOf("^99.99.99"), "99999999..99999999");
-        due("3: a caret of a major number alone", rangeOf("^2.0.0"), "2000099..2999999");
-        due("3: a tilde", rangeOf("~1.2.3"), "1020399..1029999");
-        due("3: a tilde of zeros", rangeOf("~0.0.0"), "99..9999");
-        due("3: a tilde of a prerelease", rangeOf("~1.2.3-4"), "1020304..1029999");
-        due("3: a tilde with a minor number 99", rangeOf("~1.99.1"), "1990199..1999999");
-        due("3: a tilde with two numbers 99", rangeOf("~99.99.0"), "99990099..99999999");
+        due("3: a caret with a major number", Make.rangeOf("^1.2.3"), "1020399..1999999");
+        due("3: a caret with a minor number", Make.rangeOf("^0.2.3"), "20399..29999");
+        due("3: a caret with a patch number", Make.rangeOf("^0.0.3"), "399..399");
+        due("3: a caret of zeros", Make.rangeOf("^0.0.0"), "99..99");
+        due("3: a caret of a prerelease of zeros", Make.rangeOf("^0.0.0-7"), "7..99");
+        due("3: a caret of a prerelease", Make.rangeOf("^1.2.3-4"), "1020304..1999999");
+        due("3: a caret of a patch's prerelease", Make.rangeOf("^0.0.3-4"), "304..399");
+        due("3: a caret with a patch number 99", Make.rangeOf("^0.0.99"), "9999..9999");
+        due("3: its prerelease", Make.rangeOf("^0.0.99-0"), "9900..9999");
+        due("3: a caret with a minor number 99", Make.rangeOf("^0.99.5"), "990599..999999");
+        due("3: a caret with a major number 99", Make.rangeOf("^99.0.0-0"), "99000000..99999999");
+        due("3: a caret of the greatest one", Make.rangeOf("^99.99.99"), "99999999..99999999");
+        due("3: a caret of a major number alone", Make.rangeOf("^2.0.0"), "2000099..2999999");
+        due("3: a tilde", Make.rangeOf("~1.2.3"), "1020399..1029999");
+        due("3: a tilde of zeros", Make.rangeOf("~0.0.0"), "99..9999");
+        due("3: a tilde of a prerelease", Make.rangeOf("~1.2.3-4"), "1020304..1029999");
+        due("3: a tilde with a minor number 99", Make.rangeOf("~1.99.1"), "1990199..1999999");
+        due("3: a tilde with two numbers 99", Make.rangeOf("~99.99.0"), "99990099..99999999");
     }
 
     private static void readSeries() {
-        due("3: all versions", rangeOf("*"), "0..99999999");
-        due("3: a major number", rangeOf("1.x"), "1000000..1999999");
-        due("3: the major number 0", rangeOf("0.x"), "0..999999");
-        due("3: the major number 99", rangeOf("99.x"), "99000000..99999999");
-        due("3: a minor number", rangeOf("1.2.x"), "1020000..1029999");
-        due("3: the minor number 0", rangeOf("0.0.x"), "0..9999");
-        due("3: the minor number 99", rangeOf("99.99.x"), "99990000..99999999");
+        due("3: all versions", Make.rangeOf("*"), "0..99999999");
+        due("3: a major number", Make.rangeOf("1.x"), "1000000..1999999");
+        due("3: the major number 0", Make.rangeOf("0.x"), "0..999999");
+        due("3: the major number 99", Make.rangeOf("99.x"), "99000000..99999999");
+        due("3: a minor number", Make.rangeOf("1.2.x"), "1020000..1029999");
+        due("3: the minor number 0", Make.rangeOf("0.0.x"), "0..9999");
+        due("3: the minor number 99", Make.rangeOf("99.99.x"), "99990000..99999999");
     }
 
     private static void readFaults() {
@@ -227,9 +191,9 @@ public final class PromiseTests {
             5, 3, 3, 6, 1, 1, 1, 0, 2, 2, 4, 1, 5,
             5, 7, 5, 0, 9};
         for (int i = 0; i < texts.length; i++) {
-            due("3: the fault of \"" + texts[i] + "\"", faultOf(texts[i]), faults[i]);
+            due("3: the fault of \"" + texts[i] + "\"", Make.faultOf(texts[i]), faults[i]);
         }
-        VersionAlgebra x = with("1.x");
+        VersionAlgebra x = Make.with("1.x");
         due("3: a fault throws", Check.read(x, 0, "2.y"), Check.ARGUMENT);
         due("3: a fault empties the buffer", x.account(7), 0);
         due("3: a fault leaves the slot", Check.ends(x, 0), "1000000..1999999");
@@ -239,7 +203,7 @@ public final class PromiseTests {
     }
 
     private static void readRefusals() {
-        VersionAlgebra x = with("1.x");
+        VersionAlgebra x = Make.with("1.x");
         due("3: a prerelease 99", Check.read(x, 0, "=1.0.0-99"), Check.REFUSED);
         due("3: its reason", x.refusal(), 2);
         due("3: it empties the buffer", x.account(7), 0);
@@ -292,9 +256,9 @@ public final class PromiseTests {
         Object[] faults = {0, 0, 0, 0, 0, 2, 2, 2, 2, 2, 1, 1, 2, 1, 2, 3, 1, 1, 1, 1, 1, 1, 3, 1, 0, 2, 1, 0, 2, 1, 1, 3, 5,
             1, 3, 2, 3};
         for (int i = 0; i < texts.length; i++) {
-            due("4: the fault of \"" + texts[i] + "\"", faultOfExpression(texts[i]), faults[i]);
+            due("4: the fault of \"" + texts[i] + "\"", Make.faultOfExpression(texts[i]), faults[i]);
         }
-        VersionAlgebra x = with("1.x");
+        VersionAlgebra x = Make.with("1.x");
         due("4: a fault comes ahead of a failure", Check.evaluate(x, 0, "9+9+"), Check.ARGUMENT);
         due("4: it is no failure", Check.chain(x), Check.STATE);
         due("4: it is no refusal", Check.ask(() -> x.refusal()), Check.NO_ELEMENT);
@@ -303,23 +267,23 @@ public final class PromiseTests {
     }
 
     private static void evaluateOpenSigns() {
-        VersionAlgebra x = with("1.x");
+        VersionAlgebra x = Make.with("1.x");
         due("4: 8 signs ! are open", Check.evaluate(x, 1, "!!!!!!!!0"), 1);
         due("4: 8 signs ( are open", Check.evaluate(x, 1, "((((((((0))))))))"), 1);
         due("4: 8 signs of both are open", Check.evaluate(x, 1, "!(!(!(!(0))))"), 1);
-        due("4: 9 signs !", faultOfExpression("!!!!!!!!!0"), 8);
-        due("4: 9 signs (", faultOfExpression("(((((((((0)))))))))"), 8);
-        due("4: 9 signs of both", faultOfExpression("(!(!(!(!(0))))"), 8);
+        due("4: 9 signs !", Make.faultOfExpression("!!!!!!!!!0"), 8);
+        due("4: 9 signs (", Make.faultOfExpression("(((((((((0)))))))))"), 8);
+        due("4: 9 signs of both", Make.faultOfExpression("(!(!(!(!(0))))"), 8);
         due("4: a ! is not open behind its factor", Check.evaluate(x, 1, "!!!!!!!!0&!!!!!!!!0+!!!!!!!!0"), 1);
         due("4: nor a (", Check.evaluate(x, 1, "((((((((0))))))))+((((((((0))))))))"), 1);
-        due("4: a ! is open until its ) comes", faultOfExpression("!(0+!(0+!(0+!(0+!0))))"), 16);
+        due("4: a ! is open until its ) comes", Make.faultOfExpression("!(0+!(0+!(0+!(0+!0))))"), 16);
         due("4: within them 8 can be open", Check.evaluate(x, 1, "!(0+!(0+!(0&((0))-!0)))"), 2);
         due("4: only those that are open count", Check.evaluate(x, 1, "((((((((0)))))))&!0)-!!!!!!!!0"), 0);
-        due("4: behind a ) one more is a fault", faultOfExpression("((((((((0)+(0)+((0"), 16);
+        due("4: behind a ) one more is a fault", Make.faultOfExpression("((((((((0)+(0)+((0"), 16);
     }
 
     private static void evaluateRefusals() {
-        VersionAlgebra x = with("1.x");
+        VersionAlgebra x = Make.with("1.x");
         due("4: an empty slot", Check.evaluate(x, 0, "0+5"), Check.REFUSED);
         due("4: its reason", x.refusal(), 1);
         due("4: it empties the buffer", x.account(7), 0);
@@ -328,9 +292,9 @@ public final class PromiseTests {
         due("4: a slot that does not exist", Check.evaluate(x, 0, "0&12"), Check.REFUSED);
         due("4: a slot 99", Check.evaluate(x, 0, "99"), Check.REFUSED);
         due("4: an empty slot alone", Check.evaluate(x, 0, "11"), Check.REFUSED);
-        putSpans(x, 1, 1001, 16);
+        Make.putSpans(x, 1, 1001, 16);
         due("4: 16 spans", x.spans(1), 16);
-        putSpans(x, 2, 2001, 16);
+        Make.putSpans(x, 2, 2001, 16);
         x.put(3, 5000, 5000);
         x.put(4, 5001, LAST);
         due("4: 17 spans", Check.evaluate(x, 0, "1+3"), Check.REFUSED);
@@ -405,7 +369,7 @@ public final class PromiseTests {
     }
 
     private static void clear() {
-        VersionAlgebra x = with("1.x", "<0.0.0-0");
+        VersionAlgebra x = Make.with("1.x", "<0.0.0-0");
         due("7: a slot with a range", x.clear(0), true);
         due("7: is empty then", Check.ends(x, 0), Check.NO_ELEMENT);
         due("7: has none then", x.clear(0), false);
@@ -417,7 +381,7 @@ public final class PromiseTests {
     }
 
     private static void copy() {
-        VersionAlgebra x = with("1.x|3.x", "5.x");
+        VersionAlgebra x = Make.with("1.x|3.x", "5.x");
         due("8: to an empty slot", x.copy(0, 11), 3);
         due("8: the copy", Check.ends(x, 11), "1000000..1999999 3000000..3999999");
         due("8: to a slot with a range", x.copy(1, 0), 3);
@@ -437,7 +401,7 @@ public final class PromiseTests {
     }
 
     private static void spans() {
-        VersionAlgebra x = with("1.x|3.x|5.x", "*", "<0.0.0-0", "1.x|2.x");
+        VersionAlgebra x = Make.with("1.x|3.x|5.x", "*", "<0.0.0-0", "1.x|2.x");
         due("9: three", x.spans(0), 3);
         due("9: one", x.spans(1), 1);
         due("9: none", x.spans(2), 0);
@@ -448,7 +412,7 @@ public final class PromiseTests {
     }
 
     private static void end() {
-        VersionAlgebra x = with("1.x|3.x|5.x", "<0.0.0-0");
+        VersionAlgebra x = Make.with("1.x|3.x|5.x", "<0.0.0-0");
         due("10: the first one of the first span", x.end(0, 0, false), 1000000);
         due("10: the last one of the first span", x.end(0, 0, true), 1999999);
         due("10: the first one of the last span", x.end(0, 2, false), 5000000);
@@ -465,7 +429,7 @@ public final class PromiseTests {
     }
 
     private static void size() {
-        VersionAlgebra x = with("*", "<0.0.0-0", "1.0.x|=2.0.0", "1.2.3");
+        VersionAlgebra x = Make.with("*", "<0.0.0-0", "1.0.x|=2.0.0", "1.2.3");
         due("11: all", x.size(0), 100000000);
         due("11: none", x.size(1), 0);
         due("11: two spans", x.size(2), 10001);
@@ -476,7 +440,7 @@ public final class PromiseTests {
     }
 
     private static void contains() {
-        VersionAlgebra x = with("1.x|>=3.0.0 <=3.0.1", "<0.0.0-0", "*");
+        VersionAlgebra x = Make.with("1.x|>=3.0.0 <=3.0.1", "<0.0.0-0", "*");
         int[] versions = {0, 999999, 1000000, 1500000, 1999999, 2000000, 3000098, 3000099, 3000100, 3000199, 3000200, LAST};
         boolean[] dues = {false, false, true, true, true, false, false, true, true, true, false, false};
         for (int i = 0; i < versions.length; i++) {
@@ -494,7 +458,7 @@ public final class PromiseTests {
     }
 
     private static void containsStrictly() {
-        VersionAlgebra x = with(">=1.0.0-5 <=2.0.0-7|>=3.0.0 <=4.0.0-3", "*", "5.0.0-1|>=6.0.0-1 <=7.0.0");
+        VersionAlgebra x = Make.with(">=1.0.0-5 <=2.0.0-7|>=3.0.0 <=4.0.0-3", "*", "5.0.0-1|>=6.0.0-1 <=7.0.0");
         Check.evaluate(x, 0, "0+2");
         int[] versions = {1000004, 1000005, 1000098, 1000099, 1000105, 1500000, 1500099, 2000000, 2000007, 2000008, 2000099,
             3000098, 3000099, 3000100, 3999998, 4000000, 4000003, 4000004, 5000001, 5000000, 6000050, 6000100, 7000098,
@@ -510,16 +474,16 @@ public final class PromiseTests {
         due("12: but no other prerelease", x.contains(1, 100, true), false);
         due("12: the greatest one is no prerelease", x.contains(1, LAST - 1, true), false);
         due("12: and belongs strictly", x.contains(1, LAST, true), true);
-        VersionAlgebra y = with("<=1.0.0-3|>=1.0.0-5 <=1.5.0|>=2.0.0 <=3.0.0");
+        VersionAlgebra y = Make.with("<=1.0.0-3|>=1.0.0-5 <=1.5.0|>=2.0.0 <=3.0.0");
         due("12: the ends of another span do not count", y.contains(0, 2000100, true), false);
         due("12: those of its own do", y.contains(0, 1000001, true), true);
-        VersionAlgebra z = with("1.x|2.0.0-0");
+        VersionAlgebra z = Make.with("1.x|2.0.0-0");
         due("12: spans that touch are one", z.contains(0, 1999950, true), false);
         due("12: with the ends of that one", z.contains(0, 1000050, true), true);
     }
 
     private static void from() {
-        VersionAlgebra x = with("1.x|3.x", "<0.0.0-0");
+        VersionAlgebra x = Make.with("1.x|3.x", "<0.0.0-0");
         due("13: ahead of all", x.from(0, 0), 1000000);
         due("13: the first one", x.from(0, 1000000), 1000000);
         due("13: within", x.from(0, 1234567), 1234567);
@@ -540,7 +504,7 @@ public final class PromiseTests {
     }
 
     private static void relation() {
-        VersionAlgebra x = with("1.x", "1.2.x", "2.x", "<0.0.0-0", "1.9.x|2.x", "*", "1.x|3.x");
+        VersionAlgebra x = Make.with("1.x", "1.2.x", "2.x", "<0.0.0-0", "1.9.x|2.x", "*", "1.x|3.x");
         due("14: itself", x.relation(0, 0), 6);
         due("14: the greater one", x.relation(0, 1), 4);
         due("14: the lesser one", x.relation(1, 0), 2);
@@ -565,7 +529,7 @@ public final class PromiseTests {
     }
 
     private static void agrees() {
-        VersionAlgebra x = with("1.x|3.x", "1.5.x|2.x", "<0.0.0-0", "*");
+        VersionAlgebra x = Make.with("1.x|3.x", "1.5.x|2.x", "<0.0.0-0", "*");
         String[] signs = {"+", "&", "-"};
         for (int operation = 0; operation < 3; operation++) {
             Check.evaluate(x, 5, "0" + signs[operation] + "1");
@@ -638,7 +602,7 @@ public final class PromiseTests {
 
     private static void textLength() {
         for (int i = 0; i < CANONICAL_SOURCES.length; i++) {
-            VersionAlgebra x = with(CANONICAL_SOURCES[i]);
+            VersionAlgebra x = Make.with(CANONICAL_SOURCES[i]);
             due("17: of " + CANONICAL_SOURCES[i], x.textLength(0), CANONICAL_TEXTS[i].length());
         }
         VersionAlgebra x = new VersionAlgebra();
@@ -657,10 +621,10 @@ public final class PromiseTests {
 
     private static void text() {
         for (int i = 0; i < CANONICAL_SOURCES.length; i++) {
-            VersionAlgebra x = with(CANONICAL_SOURCES[i]);
+            VersionAlgebra x = Make.with(CANONICAL_SOURCES[i]);
             due("18: of " + CANONICAL_SOURCES[i], Check.text(x, 0), CANONICAL_TEXTS[i]);
         }
-        VersionAlgebra x = with("1.x", "<0.0.0-0");
+        VersionAlgebra x = Make.with("1.x", "<0.0.0-0");
         due("18: the first character", x.text(0, 0), '>');
         due("18: the last character", x.text(0, x.textLength(0) - 1), '9');
         due("18: no index behind it", Check.ask(() -> x.text(0, x.textLength(0))), Check.NO_ELEMENT);
@@ -681,7 +645,7 @@ public final class PromiseTests {
         due("19: reason 1", x.refusal(), 1);
         Check.read(x, 0, "1.0.0-99");
         due("19: reason 2", x.refusal(), 2);
-        putSpans(x, 0, 1001, 16);
+        Make.putSpans(x, 0, 1001, 16);
         due("19: successful calls leave it", x.refusal(), 2);
         Check.evaluate(x, 1, "!0");
         due("19: reason 3", x.refusal(), 3);
@@ -704,7 +668,7 @@ public final class PromiseTests {
     }
 
     private static void causeAtSlots() {
-        VersionAlgebra x = with("1.x", "2.x", "1.2.x");
+        VersionAlgebra x = Make.with("1.x", "2.x", "1.2.x");
         String[] texts = {"9", "9+0", "0+9", "0+1+9", "9+1+0", "0+9+1", "0&9", "0-15", "9-0&1", "0-9&1", "0-1&9", "0+1&9",
             "9&1+0", "0+9&1", "!9", "!!9", "!(9)", "(9)", "((0+9))", "0+(1&!7)", "0-(1-(2-11))", "(0+1)&(2-9)", "!(0+!(1&99))",
             "0+1+2+0+12", "10+0", "0+(9)+1", "!0&!9", "!9&9", "0+!9-1", "(9+8)+7", "0+(8+7)"};
@@ -726,8 +690,8 @@ public final class PromiseTests {
 
     private static void causeAtOperations() {
         VersionAlgebra x = new VersionAlgebra();
-        putSpans(x, 0, 1001, 16);
-        putSpans(x, 1, 2001, 16);
+        Make.putSpans(x, 0, 1001, 16);
+        Make.putSpans(x, 1, 2001, 16);
         x.put(2, 5000, 5000);
         x.put(3, 0, LAST);
         String[] texts = {"0+1", "!0", "0+2", "3-0", "3&(0+2)", "(0+2)&3", "0+2+9", "2+(0-1)+0+2", "!(2+0)", "!(2&0)+!1",
@@ -740,7 +704,7 @@ public final class PromiseTests {
         }
         due("20: the reason", x.refusal(), 3);
         VersionAlgebra y = new VersionAlgebra();
-        putSpans(y, 0, 1001, 16);
+        Make.putSpans(y, 0, 1001, 16);
         String longest = "0+0+0+0+0+0+0+0+0+0+0+0+0+0+0+0+0+0+0+0+0+0+0+0+0+0+0+0+0+!0";
         due("20: a text of 60 characters", longest.length(), 60);
         due("20: fails at its end", Check.evaluate(y, 1, longest), Check.REFUSED);
@@ -754,7 +718,7 @@ public final class PromiseTests {
     }
 
     private static void causeIsKept() {
-        VersionAlgebra x = with("1.x");
+        VersionAlgebra x = Make.with("1.x");
         due("20: none failed", Check.ask(() -> x.cause(-1)), Check.STATE);
         due("20: none failed, another index", Check.ask(() -> x.cause(-5)), Check.STATE);
         Check.evaluate(x, 0, "0+");
@@ -847,7 +811,7 @@ public final class PromiseTests {
     }
 
     private static VersionAlgebra withPublished() {
-        VersionAlgebra x = with(">=1.0.0-5 <=2.0.0", "3.x", "<0.0.0-0", "*");
+        VersionAlgebra x = Make.with(">=1.0.0-5 <=2.0.0", "3.x", "<0.0.0-0", "*");
         for (int version : new int[] {1000004, 1000006, 1000099, 1500098, 2500099, 1500099, 1999998}) {
             x.publish(version);
         }
@@ -867,14 +831,14 @@ public final class PromiseTests {
         x.withdraw(1000006);
         due("24: none strictly", Check.ask(() -> x.best(0, true)), Check.NO_ELEMENT);
         due("24: but not strictly", x.best(0, false), 1999998);
-        VersionAlgebra y = with("1.x");
+        VersionAlgebra y = Make.with("1.x");
         y.publish(1000099);
         y.publish(2000099);
         due("24: the least one published", y.best(0, true), 1000099);
         due("24: an empty slot", Check.ask(() -> x.best(5, true)), Check.NO_ELEMENT);
         due("24: no slot -1", Check.ask(() -> x.best(-1, true)), Check.INDEX);
         due("24: no slot 12", Check.ask(() -> x.best(12, true)), Check.INDEX);
-        due("24: none published", Check.ask(() -> with("*").best(0, false)), Check.NO_ELEMENT);
+        due("24: none published", Check.ask(() -> Make.with("*").best(0, false)), Check.NO_ELEMENT);
     }
 
     private static void matching() {
@@ -888,7 +852,7 @@ public final class PromiseTests {
         due("25: an empty slot", Check.ask(() -> x.matching(5, true)), Check.NO_ELEMENT);
         due("25: no slot -1", Check.ask(() -> x.matching(-1, true)), Check.INDEX);
         due("25: no slot 12", Check.ask(() -> x.matching(12, true)), Check.INDEX);
-        due("25: none published", with("*").matching(0, false), 0);
+        due("25: none published", Make.with("*").matching(0, false), 0);
     }
 
     private static void share() {
@@ -900,7 +864,7 @@ public final class PromiseTests {
         due("26: an empty slot", Check.ask(() -> x.share(5)), Check.NO_ELEMENT);
         due("26: no slot -1", Check.ask(() -> x.share(-1)), Check.INDEX);
         due("26: no slot 12", Check.ask(() -> x.share(12)), Check.INDEX);
-        VersionAlgebra y = with("*");
+        VersionAlgebra y = Make.with("*");
         due("26: none published", Check.ask(() -> y.share(0)), Check.ARITHMETIC);
         due("26: an empty slot comes first", Check.ask(() -> y.share(1)), Check.NO_ELEMENT);
         due("26: no slot comes first", Check.ask(() -> y.share(12)), Check.INDEX);
@@ -909,7 +873,7 @@ public final class PromiseTests {
     }
 
     private static void account() {
-        VersionAlgebra x = with("1.x|3.x|5.x", "2.x", "<0.0.0-0", "7.0.0|8.0.0");
+        VersionAlgebra x = Make.with("1.x|3.x|5.x", "2.x", "<0.0.0-0", "7.0.0|8.0.0");
         for (int version : new int[] {1000000, 2000099, 4000001, 4000099, 6000098, 9000099}) {
             x.publish(version);
         }
@@ -927,7 +891,7 @@ public final class PromiseTests {
         due("27: no account 8", Check.ask(() -> x.account(8)), Check.ARGUMENT);
         due("27: no account -1", Check.ask(() -> x.account(-1)), Check.ARGUMENT);
         due("27: no account of the least number", Check.ask(() -> x.account(Integer.MIN_VALUE)), Check.ARGUMENT);
-        due("27: only ranges without versions", with("<0.0.0-0").account(2), 0);
+        due("27: only ranges without versions", Make.with("<0.0.0-0").account(2), 0);
         x.publish(2500000);
         due("27: one within a range", x.account(5), 5);
         due("27: a prerelease that belongs, but not strictly", x.account(4), 4);
@@ -956,7 +920,7 @@ public final class PromiseTests {
     }
 
     private static void undoOfEachChange() {
-        VersionAlgebra x = with("1.x");
+        VersionAlgebra x = Make.with("1.x");
         Check.read(x, 0, "2.x");
         due("28: read", x.undo() + " " + Check.ends(x, 0), "1 1000000..1999999");
         Check.evaluate(x, 0, "!0");
@@ -989,7 +953,7 @@ public final class PromiseTests {
     }
 
     private static void undoLeavesTheRest() {
-        VersionAlgebra x = with("1.x");
+        VersionAlgebra x = Make.with("1.x");
         Check.evaluate(x, 3, "0&!0-9");
         Check.read(x, 3, "1.x?");
         Check.type(x, "2.");
@@ -1003,7 +967,7 @@ public final class PromiseTests {
     }
 
     private static void save() {
-        VersionAlgebra x = with("1.x");
+        VersionAlgebra x = Make.with("1.x");
         x.publish(5);
         x.save();
         Check.read(x, 0, "2.x");
@@ -1026,7 +990,7 @@ public final class PromiseTests {
     }
 
     private static void restore() {
-        VersionAlgebra x = with("1.x", "3.x");
+        VersionAlgebra x = Make.with("1.x", "3.x");
         due("30: no snapshot", Check.ask(() -> x.restore()), Check.STATE);
         due("30: nothing has changed", x.account(0), 2);
         due("30: nor what can be undone", x.undo(), 1);
@@ -1060,7 +1024,7 @@ public final class PromiseTests {
     }
 
     private static void throwingLeavesAll() {
-        VersionAlgebra x = with("1.x|3.x", "2.x");
+        VersionAlgebra x = Make.with("1.x|3.x", "2.x");
         x.publish(2000099);
         Check.type(x, "0");
         for (int slot : new int[] {-1, 12}) {
