@@ -156,7 +156,8 @@ public final class SectionTests {
         due("one", Check.read(x, 0, "1.x"), 1);
         due("one of two rows", Check.read(x, 0, "1.x|2.x"), 1);
         due("two", Check.read(x, 0, "1.x|3.x"), 2);
-        due("11, the most of 60 characters", Check.read(x, 0, "0.x|2.x|4.x|6.x|8.x|1.1.x|3.1.x|5.1.x|7.1.x|9.1.x|1.3.x") + " " + x.spans(0), "11 11");
+        due("13, the most of 60 characters",
+                Check.read(x, 0, "0.x|2.x|4.x|6.x|8.x|10.x|12.x|14.x|16.x|18.x|20.x|22.x|24.x") + " " + x.spans(0), "13 13");
     }
 
     private void readThrows() {
